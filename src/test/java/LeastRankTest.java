@@ -1,0 +1,62 @@
+/** Promise 14. */
+public final class LeastRankTest {
+    public static void main(String[] args) {
+        longestWay();
+        cheapestOfManyWays();
+        isNotWhatTheNodesHave();
+        wrongNodes();
+        Checks.end();
+    }
+
+    private static void longestWay() {
+        RankMesh mesh = new RankMesh();
+        int[] order = {4, 8, 1, 9, 0, 7, 2, 6, 3, 5};
+        for (int place = 1; place < order.length; place++) {
+            mesh.link(order[place], order[place - 1], 100);
+        }
+        Checks.due("leastRank without a root", 10000, mesh.leastRank(5));
+        mesh.makeRoot(order[0]);
+        for (int place = 0; place < order.length; place++) {
+            Checks.due("leastRank", 100 * place, mesh.leastRank(order[place]));
+        }
+        mesh.link(1, 9, 0);
+        Checks.due("leastRank behind a cut", 10000, mesh.leastRank(9));
+        mesh.makeRoot(5);
+        Checks.due("leastRank by another root", 600, mesh.leastRank(9));
+        mesh.endRoot(4);
+        Checks.due("leastRank of one that was a root", 10000, mesh.leastRank(4));
+    }
+
+    private static void cheapestOfManyWays() {
+        RankMesh mesh = new RankMesh();
+        mesh.makeRoot(0);
+        mesh.link(0, 1, 10);
+        mesh.link(0, 2, 3);
+        mesh.link(1, 2, 4);
+        mesh.link(1, 3, 2);
+        mesh.link(2, 3, 8);
+        mesh.link(3, 4, 6);
+        Checks.due("leastRank", 7, mesh.leastRank(1));
+        Checks.due("leastRank", 9, mesh.leastRank(3));
+        Checks.due("leastRank", 15, mesh.leastRank(4));
+        mesh.makeRoot(4);
+        Checks.due("leastRank", 6, mesh.leastRank(3));
+        Checks.due("leastRank", 0, mesh.leastRank(4));
+    }
+
+    private static void isNotWhatTheNodesHave() {
+        RankMesh mesh = Meshes.line();
+        Checks.due("leastRank ahead of tellings", 15, mesh.leastRank(3));
+        mesh.pass(20);
+        String before = Meshes.state(mesh);
+        mesh.leastRank(3);
+        Meshes.unchanged("leastRank", mesh, before);
+    }
+
+    private static void wrongNodes() {
+        RankMesh mesh = new RankMesh();
+        for (int none : Meshes.NO_NODES) {
+            Checks.outOfBounds("leastRank", () -> mesh.leastRank(none));
+        }
+    }
+}
