@@ -2,6 +2,7 @@
 public final class LeastRankTest {
     public static void main(String[] args) {
         longestWay();
+        longestWayByFallingNumbers();
         cheapestOfManyWays();
         isNotWhatTheNodesHave();
         wrongNodes();
@@ -27,6 +28,19 @@ public final class LeastRankTest {
         Checks.due("leastRank of one that was a root", 10000, mesh.leastRank(4));
     }
 
+    private static void longestWayByFallingNumbers() {
+        RankMesh falling = new RankMesh();
+        RankMesh rising = new RankMesh();
+        for (int node = 1; node < Meshes.NODES; node++) {
+            falling.link(node, node - 1, 1);
+            rising.link(node, node - 1, 1);
+        }
+        falling.makeRoot(9);
+        rising.makeRoot(0);
+        Checks.due("leastRank of the last one, falling", 9, falling.leastRank(0));
+        Checks.due("leastRank of the last one, rising", 9, rising.leastRank(9));
+    }
+
     private static void cheapestOfManyWays() {
         RankMesh mesh = new RankMesh();
         mesh.makeRoot(0);
@@ -36,9 +50,11 @@ public final class LeastRankTest {
         mesh.link(1, 3, 2);
         mesh.link(2, 3, 8);
         mesh.link(3, 4, 6);
+        mesh.link(4, 5, 1);
         Checks.due("leastRank", 7, mesh.leastRank(1));
         Checks.due("leastRank", 9, mesh.leastRank(3));
         Checks.due("leastRank", 15, mesh.leastRank(4));
+        Checks.due("leastRank by a link of the least cost", 16, mesh.leastRank(5));
         mesh.makeRoot(4);
         Checks.due("leastRank", 6, mesh.leastRank(3));
         Checks.due("leastRank", 0, mesh.leastRank(4));

@@ -5,6 +5,7 @@ public final class LinkTest {
         linksBothDirections();
         choosesAtOnce();
         forgetsWhatWasHeard();
+        forgetsTheVersionToo();
         firstNamedChoosesFirst();
         bothChooseEvenWithoutALink();
         keepsTheParentOfALoop();
@@ -67,6 +68,26 @@ public final class LinkTest {
         mesh.link(1, 2, 5);
         Checks.due("heard by 2, linked anew", -1, mesh.heard(2, 1));
         Checks.due("heard by 1, linked anew", -1, mesh.heard(1, 2));
+    }
+
+    /** 5 heard version 2 of 0 alone; without that link, version 1 of 2 is not outdated. */
+    private static void forgetsTheVersionToo() {
+        RankMesh mesh = new RankMesh();
+        mesh.makeRoot(0);
+        mesh.link(0, 1, 5);
+        mesh.link(1, 2, 5);
+        mesh.link(2, 5, 20);
+        mesh.link(0, 5, 50);
+        mesh.makeRoot(5);
+        mesh.pass(40);
+        mesh.renew(0);
+        mesh.pass(1);
+        Checks.due("tree of 2", 10, mesh.tree(2));
+        mesh.link(0, 5, 0);
+        mesh.endRoot(5);
+        Checks.due("parent of 5", 2, mesh.parent(5));
+        Checks.due("tree of 5", 10, mesh.tree(5));
+        Checks.due("rank of 5", 30, mesh.rank(5));
     }
 
     /** Whoever chooses first, neither tells the other in it: each keeps its own choice. */

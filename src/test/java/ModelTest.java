@@ -2,6 +2,8 @@
 public final class ModelTest {
     private static final int RUNS = 600;
     private static final int CALLS = 250;
+    private static final int DEEP_RUNS = 400;
+    private static final int DEEP_CALLS = 512;
     private static final int[] ODD_NUMBERS = {
         -1, 10, 101, 10001, -10000, Integer.MIN_VALUE, Integer.MAX_VALUE, 1 << 30, 7, 9,
     };
@@ -13,16 +15,21 @@ public final class ModelTest {
     private static long seed;
     private static int nodes;
     private static int looped;
-    private static int deeper;
+    private static int lost;
+    private static int deepest;
     private static int refused;
 
     public static void main(String[] args) {
         for (int run = 0; run < RUNS; run++) {
             compareRun(run);
         }
+        for (int run = 0; run < DEEP_RUNS; run++) {
+            compareDeepRun(run);
+        }
         // Runs that never come to these would leave the words on them untested.
         Checks.due("loops were found", 1, looped > 500 ? 1 : 0);
-        Checks.due("ranks were lost", 1, deeper > 500 ? 1 : 0);
+        Checks.due("ranks were lost", 1, lost > 500 ? 1 : 0);
+        Checks.due("the deepest rank is near the edge", 1, deepest > 9950 ? 1 : 0);
         Checks.due("calls were refused", 1, refused > 500 ? 1 : 0);
         Checks.end();
     }
@@ -59,14 +66,66 @@ public final class ModelTest {
         }
     }
 
+    /** Without a root, ranks without an end rise up to no rank. */
+    private static void compareDeepRun(int run) {
+        seed = run;
+        nodes = 3 + next(3);
+        RankMesh mesh = new RankMesh();
+        ModelMesh model = new ModelMesh();
+        StringBuilder calls = new StringBuilder();
+        String wrong = startDeepRun(mesh, model, calls);
+        for (int call = nodes * nodes; call < DEEP_CALLS && wrong.isEmpty(); call++) {
+            wrong = compareDeepCall(mesh, model, calls) + difference(mesh, model);
+        }
+        if (!wrong.isEmpty()) {
+            Checks.report("deep run " + run + ":" + calls + ": " + wrong);
+        }
+    }
+
+    private static String startDeepRun(RankMesh mesh, ModelMesh model, StringBuilder calls) {
+        StringBuilder wrong = new StringBuilder();
+        wrong.append(compareRules(mesh, model, calls, next(101), 10000, 1));
+        for (int one = 0; one < nodes; one++) {
+            for (int other = 0; other < one; other++) {
+                wrong.append(compareLink(mesh, model, calls, one, other, 60 + next(41)));
+            }
+        }
+        calls.append("\n makeRoot 0, pass 20, endRoot 0");
+        wrong.append(both(() -> mesh.makeRoot(0), () -> model.makeRoot(0)));
+        wrong.append(both(() -> mesh.pass(20), () -> model.pass(20)));
+        wrong.append(both(() -> none(() -> mesh.endRoot(0)), () -> none(() -> model.endRoot(0))));
+        return wrong.toString();
+    }
+
+    private static String compareDeepCall(RankMesh mesh, ModelMesh model, StringBuilder calls) {
+        int a = next(nodes);
+        int b = next(nodes);
+        switch (next(14)) {
+            case 0:
+                return compareLink(mesh, model, calls, a, b, 40 + next(61));
+            case 1:
+                return compareRules(mesh, model, calls, next(101), 10000, 1);
+            case 2, 3, 4, 5, 6, 7, 8, 9:
+                calls.append("\n pass 1");
+                return both(() -> mesh.pass(1), () -> model.pass(1));
+            default:
+                return compareLink(mesh, model, calls, a, 9, 0);
+        }
+    }
+
+    private static String compareLink(RankMesh mesh, ModelMesh model, StringBuilder calls,
+            int one, int other, int cost) {
+        calls.append("\n link ").append(one).append(' ').append(other).append(' ').append(cost);
+        return both(() -> mesh.link(one, other, cost), () -> model.link(one, other, cost));
+    }
+
     private static String compareCall(RankMesh mesh, ModelMesh model, StringBuilder calls) {
         int a = node();
         int b = node();
         switch (next(16)) {
             case 0, 1, 2, 3:
                 int cost = next(3) == 0 ? 0 : next(2) == 0 ? number(1, 6) : number(1, 100);
-                calls.append("\n link ").append(a).append(' ').append(b).append(' ').append(cost);
-                return both(() -> mesh.link(a, b, cost), () -> model.link(a, b, cost));
+                return compareLink(mesh, model, calls, a, b, cost);
             case 4, 5, 6, 7, 8:
                 int ticks = next(4) == 0 ? number(1, 100) : number(1, 3);
                 calls.append("\n pass ").append(ticks);
@@ -82,7 +141,10 @@ public final class ModelTest {
                 calls.append("\n renew ").append(a);
                 return both(() -> mesh.renew(a), () -> model.renew(a));
             case 12:
-                return next(3) == 0 ? compareRules(mesh, model, calls) : "";
+                return next(3) != 0 ? "" : compareRules(mesh, model, calls,
+                        next(2) == 0 ? number(0, 8) : number(0, 100),
+                        next(2) == 0 ? number(0, 30) : number(0, 10000),
+                        number(1, next(2) == 0 ? 2 : 8));
             case 13, 14:
                 calls.append("\n up ").append(a);
                 return both(() -> mesh.up(a), () -> model.up(a));
@@ -94,10 +156,8 @@ public final class ModelTest {
         }
     }
 
-    private static String compareRules(RankMesh mesh, ModelMesh model, StringBuilder calls) {
-        int hysteresis = next(2) == 0 ? number(0, 8) : number(0, 100);
-        int increase = next(2) == 0 ? number(0, 30) : number(0, 10000);
-        int least = number(1, next(2) == 0 ? 2 : 8);
+    private static String compareRules(RankMesh mesh, ModelMesh model, StringBuilder calls,
+            int hysteresis, int increase, int least) {
         int doublings = number(0, 6);
         calls.append("\n setRules ").append(hysteresis).append(' ').append(increase);
         calls.append(' ').append(least).append(' ').append(doublings);
@@ -132,7 +192,8 @@ public final class ModelTest {
             return "time or loops";
         }
         for (int node = 0; node < Meshes.NODES; node++) {
-            deeper += model.rank(node) == 10000 && model.tree(node) != -1 ? 1 : 0;
+            lost += model.rank(node) == 10000 && model.tree(node) != -1 ? 1 : 0;
+            deepest = Math.max(deepest, model.rank(node) % 10000);
             if (mesh.rank(node) != model.rank(node) || mesh.parent(node) != model.parent(node)
                     || mesh.tree(node) != model.tree(node)
                     || mesh.nextTelling(node) != model.nextTelling(node)

@@ -4,6 +4,7 @@ public final class ParentTest {
         leastRankThenLowestNumber();
         parentIsKeptAtEqualRanks();
         parentThatIsNoCandidateIsLeft();
+        parentBeyondAllRanksIsLeft();
         poisonOfANewVersionOutdatesTheOld();
         ownVersionOutdatesTheOld();
         neighboursVersionOutdatesTheOld();
@@ -62,7 +63,37 @@ public final class ParentTest {
         Checks.due("rank", 60, mesh.rank(3));
     }
 
-    /** 3 hears of 1 that it has no rank in version 2: then 2 with version 1 is outdated. */
+    /** 1 and 2 rise in a loop; 3 is below 1, by which its rank becomes 10000. */
+    private static void parentBeyondAllRanksIsLeft() {
+        RankMesh mesh = new RankMesh();
+        mesh.setRules(100, 10000, 1, 4);
+        mesh.makeRoot(0);
+        mesh.link(0, 1, 100);
+        mesh.link(1, 2, 50);
+        mesh.pass(5);
+        mesh.link(0, 1, 0);
+        mesh.link(1, 2, 50);
+        for (int round = 0; round < 194; round++) {
+            mesh.pass(1);
+            mesh.link(2, 1, 50);
+        }
+        Checks.due("rank of 1", 9900, mesh.rank(1));
+        mesh.link(3, 1, 51);
+        mesh.pass(1);
+        mesh.link(2, 1, 50);
+        mesh.link(3, 2, 1);
+        mesh.pass(1);
+        Checks.due("heard of 1", 9900, mesh.heard(3, 1));
+        Checks.due("heard of 2", 9950, mesh.heard(3, 2));
+        Checks.due("parent of 3 at equal ranks", 1, mesh.parent(3));
+        mesh.link(3, 1, 99);
+        Checks.due("rank by the parent", 9999, mesh.rank(3));
+        mesh.link(3, 1, 100);
+        Checks.due("parent of 3", 2, mesh.parent(3));
+        Checks.due("rank of 3", 9951, mesh.rank(3));
+    }
+
+    /** 2 hears of 1 that it has no rank in version 2: then 3 with version 1 is outdated. */
     private static void poisonOfANewVersionOutdatesTheOld() {
         RankMesh mesh = new RankMesh();
         mesh.makeRoot(0);
@@ -77,8 +108,6 @@ public final class ParentTest {
         Checks.due("tree of 1", 20, mesh.tree(1));
         mesh.link(0, 1, 0);
         Checks.due("rank of 1", 10000, mesh.rank(1));
-        mesh.link(1, 4, 1);
-        mesh.link(2, 4, 1);
         mesh.makeRoot(2);
         mesh.endRoot(2);
         Checks.due("heard of 3", 20, mesh.heard(2, 3));

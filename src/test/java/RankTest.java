@@ -4,6 +4,7 @@ public final class RankTest {
         sumsTheCosts();
         takesTheLeastRank();
         hearsADeeperRankNotOfItsOwnVersion();
+        risesToNoRank();
         wrongNodes();
         Checks.end();
     }
@@ -60,6 +61,33 @@ public final class RankTest {
         less.pass(6);
         less.link(0, 1, 0);
         Checks.due("rank of 1, less heard of 2", 54, less.rank(1));
+    }
+
+    /** In a loop the ranks rise by 200, and the sum of 10000 is no rank any more. */
+    private static void risesToNoRank() {
+        RankMesh mesh = new RankMesh();
+        mesh.link(0, 1, 100);
+        mesh.link(1, 2, 100);
+        mesh.makeRoot(0);
+        mesh.pass(5);
+        mesh.link(0, 1, 0);
+        int deepest = 0;
+        for (int round = 0; round < 120; round++) {
+            mesh.link(1, 2, 100);
+            mesh.pass(1);
+            mesh.link(2, 1, 100);
+            deepest = deepest(mesh, 1, deepest);
+            deepest = deepest(mesh, 2, deepest);
+        }
+        Checks.due("the deepest rank", 9900, deepest);
+        Checks.due("rank of 1 in the end", 10000, mesh.rank(1));
+        Checks.due("rank of 2 in the end", 10000, mesh.rank(2));
+    }
+
+    private static int deepest(RankMesh mesh, int node, int before) {
+        int rank = mesh.rank(node);
+        Checks.due("no parent without a rank", rank == 10000 ? 1 : 0, mesh.parent(node) < 0 ? 1 : 0);
+        return rank == 10000 ? before : Math.max(rank, before);
     }
 
     private static void wrongNodes() {

@@ -56,14 +56,14 @@ public final class UpTest {
         Checks.due("loops", 2, mesh.loops());
     }
 
-    /** 2 and 1 became deeper than those below them; 1 has no rank and no parent. */
+    /** 2 became as deep as 3 below it, and 1 has no rank and no parent. */
     private static void secondOddStepIsALoopEvenToNothing() {
         RankMesh mesh = Meshes.line();
         mesh.pass(20);
-        mesh.link(1, 2, 20);
+        mesh.link(1, 2, 10);
         mesh.link(0, 1, 0);
         Checks.due("rank of 3", 15, mesh.rank(3));
-        Checks.due("rank of 2", 25, mesh.rank(2));
+        Checks.due("rank of 2", 15, mesh.rank(2));
         Checks.due("rank of 1", 10000, mesh.rank(1));
         Checks.due("parent of 1", -1, mesh.parent(1));
         Checks.due("up, one odd step", -1, mesh.up(2));
