@@ -86,7 +86,8 @@ public final class RankTest {
 
     private static int deepest(RankMesh mesh, int node, int before) {
         int rank = mesh.rank(node);
-        Checks.due("no parent without a rank", rank == 10000 ? 1 : 0, mesh.parent(node) < 0 ? 1 : 0);
+        Checks.due("no parent without a rank",
+                rank == 10000 ? 1 : 0, mesh.parent(node) < 0 ? 1 : 0);
         return rank == 10000 ? before : Math.max(rank, before);
     }
 
