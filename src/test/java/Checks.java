@@ -1,3 +1,5 @@
+import java.util.function.IntSupplier;
+
 /** Compares answers with those that are due, and tells how many were wrong. */
 final class Checks {
     private static int wrong = 0;
@@ -30,7 +32,7 @@ final class Checks {
     }
 
     /** The class must be the very one: one that the machine throws may lie below it. */
-    private static void throwing(String call, Class<?> want, Runnable body) {
+    static void throwing(String call, Class<?> want, Runnable body) {
         try {
             body.run();
         } catch (RuntimeException e) {
@@ -40,6 +42,21 @@ final class Checks {
             return;
         }
         report(call + " threw nothing, due is " + want.getSimpleName());
+    }
+
+    /** The class's answer, or the name of what it throws. */
+    static String answer(IntSupplier call) {
+        try {
+            return Integer.toString(call.getAsInt());
+        } catch (RuntimeException e) {
+            return "throws " + e.getClass().getName();
+        }
+    }
+
+    /** The answer of a call that gives none. */
+    static int none(Runnable call) {
+        call.run();
+        return 0;
     }
 
     static void report(String text) {

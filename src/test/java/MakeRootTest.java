@@ -3,6 +3,7 @@ public final class MakeRootTest {
     public static void main(String[] args) {
         makesARoot();
         countsVersions();
+        countsItsOwnVersionsAlone();
         takesAChildOutOfItsTree();
         rootsDoNotChoose();
         wrongCalls();
@@ -34,6 +35,24 @@ public final class MakeRootTest {
         Checks.due("makeRoot after renew", 5, mesh.makeRoot(3));
         Checks.due("tree", 53, mesh.tree(3));
         Checks.due("makeRoot of another", 1, mesh.makeRoot(4));
+    }
+
+    /** 1 is in version 3 of the root 0, and later 0 is in its own old tree. */
+    private static void countsItsOwnVersionsAlone() {
+        RankMesh mesh = new RankMesh();
+        mesh.link(0, 1, 5);
+        mesh.makeRoot(0);
+        mesh.renew(0);
+        mesh.renew(0);
+        mesh.pass(5);
+        Checks.due("tree of 1", 30, mesh.tree(1));
+        Checks.due("makeRoot of a child", 1, mesh.makeRoot(1));
+        Checks.due("tree of 1", 11, mesh.tree(1));
+        mesh.endRoot(1);
+        mesh.endRoot(0);
+        Checks.due("tree of 0, its own old one", 30, mesh.tree(0));
+        Checks.due("makeRoot", 4, mesh.makeRoot(0));
+        Checks.due("makeRoot of 1 again", 2, mesh.makeRoot(1));
     }
 
     private static void takesAChildOutOfItsTree() {

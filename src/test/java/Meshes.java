@@ -28,7 +28,51 @@ final class Meshes {
         return mesh;
     }
 
-    /** All that the calls that change nothing answer. */
+    /** Every two nodes linked at the same cost, without a root. */
+    static RankMesh full(int cost) {
+        RankMesh mesh = new RankMesh();
+        for (int one = 0; one < NODES; one++) {
+            for (int other = one + 1; other < NODES; other++) {
+                mesh.link(one, other, cost);
+            }
+        }
+        return mesh;
+    }
+
+    /** 1 has this rank, 9900 to 9999, and tells it in the next tick; 1 and 2 are in a loop. */
+    static RankMesh deep(int rank) {
+        RankMesh mesh = new RankMesh();
+        mesh.link(0, 1, 98);
+        mesh.link(1, 2, 99);
+        mesh.makeRoot(0);
+        mesh.pass(5);
+        mesh.link(0, 1, 0);
+        mesh.link(1, 2, 99);
+        while (mesh.rank(1) < 9800) {
+            riseBy(mesh, 2, 1, 99);
+            riseBy(mesh, 1, 2, 99);
+        }
+        riseBy(mesh, 2, 1, 99);
+        riseBy(mesh, 1, 2, rank - mesh.rank(2));
+        return mesh;
+    }
+
+    /** The node loses its rank as the other one tells; then it goes below the other one anew. */
+    private static void riseBy(RankMesh mesh, int node, int other, int cost) {
+        mesh.pass(1);
+        mesh.link(node, other, cost);
+    }
+
+    /** Lets time pass in few calls, as an object has 512 of them. */
+    static int passTo(RankMesh mesh, int tick) {
+        int tellings = 0;
+        while (mesh.time() < tick) {
+            tellings += mesh.pass(Math.min(100, tick - mesh.time()));
+        }
+        return tellings;
+    }
+
+    /** All that the calls that change nothing answer, in 162 calls. */
     static String state(RankMesh mesh) {
         StringBuilder text = new StringBuilder();
         text.append("time ").append(mesh.time()).append(" loops ").append(mesh.loops());

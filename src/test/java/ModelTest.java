@@ -1,213 +1,245 @@
-/** Long runs of calls, by a counter's numbers, answered by the class and by the model. */
+import java.util.function.ToIntFunction;
+
+/** Runs of calls, by a counter's numbers, answered by the class and by the model. */
 public final class ModelTest {
-    private static final int RUNS = 600;
-    private static final int CALLS = 250;
-    private static final int DEEP_RUNS = 400;
-    private static final int DEEP_CALLS = 512;
+    private static final int RUNS = 3000;
+    private static final int DEEP_RUNS = 600;
+    /* An object is used for 512 calls, of which the look at the whole state takes up to 153. */
+    private static final int CALLS = 359;
     private static final int[] ODD_NUMBERS = {
         -1, 10, 101, 10001, -10000, Integer.MIN_VALUE, Integer.MAX_VALUE, 1 << 30, 7, 9,
     };
 
-    private interface Call {
-        int answer();
-    }
+    private static int looped = 0;
+    private static int lost = 0;
+    private static int deepest = 0;
+    private static int refused = 0;
 
-    private static long seed;
-    private static int nodes;
-    private static int looped;
-    private static int lost;
-    private static int deepest;
-    private static int refused;
+    private final StringBuilder text = new StringBuilder();
+    private final RankMesh mesh = new RankMesh();
+    private final ModelMesh model = new ModelMesh();
+    private final int nodes;
+    private long seed;
+    private int calls = 0;
+    private boolean differs = false;
+
+    private ModelTest(int number, int leastNodes, int mostNodes) {
+        seed = number;
+        nodes = leastNodes + next(mostNodes - leastNodes + 1);
+    }
 
     public static void main(String[] args) {
         for (int run = 0; run < RUNS; run++) {
-            compareRun(run);
+            new ModelTest(run, 3, 10).run();
         }
         for (int run = 0; run < DEEP_RUNS; run++) {
-            compareDeepRun(run);
+            new ModelTest(run, 3, 6).runDeep();
         }
         // Runs that never come to these would leave the words on them untested.
         Checks.due("loops were found", 1, looped > 500 ? 1 : 0);
         Checks.due("ranks were lost", 1, lost > 500 ? 1 : 0);
-        Checks.due("the deepest rank is near the edge", 1, deepest > 9950 ? 1 : 0);
+        Checks.due("the deepest rank is at the edge", 9999, deepest);
         Checks.due("calls were refused", 1, refused > 500 ? 1 : 0);
         Checks.end();
     }
 
-    private static int next(int below) {
+    private int next(int below) {
         seed = seed * 6364136223846793005L + 1442695040888963407L;
         return (int) ((seed >>> 33) % below);
     }
 
-    private static int node() {
+    private int node() {
         return next(40) == 0 ? ODD_NUMBERS[next(ODD_NUMBERS.length)] : next(nodes);
     }
 
-    private static int number(int least, int most) {
+    private int number(int least, int most) {
         return next(60) == 0 ? ODD_NUMBERS[next(ODD_NUMBERS.length)]
                 : least + next(most - least + 1);
     }
 
-    private static void compareRun(int run) {
-        seed = run;
-        nodes = 3 + next(8);
-        RankMesh mesh = new RankMesh();
-        ModelMesh model = new ModelMesh();
-        StringBuilder calls = new StringBuilder();
-        for (int call = 0; call < CALLS; call++) {
-            String wrong = compareCall(mesh, model, calls);
-            if (wrong.isEmpty()) {
-                wrong = difference(mesh, model);
-            }
-            if (!wrong.isEmpty()) {
-                Checks.report("run " + run + ":" + calls + ": " + wrong);
-                return;
-            }
+    private void run() {
+        while (calls < CALLS && !differs) {
+            change();
+            look();
         }
+        lookAtAll();
     }
 
-    /** Without a root, ranks without an end rise up to no rank. */
-    private static void compareDeepRun(int run) {
-        seed = run;
-        nodes = 3 + next(3);
-        RankMesh mesh = new RankMesh();
-        ModelMesh model = new ModelMesh();
-        StringBuilder calls = new StringBuilder();
-        String wrong = startDeepRun(mesh, model, calls);
-        for (int call = nodes * nodes; call < DEEP_CALLS && wrong.isEmpty(); call++) {
-            wrong = compareDeepCall(mesh, model, calls) + difference(mesh, model);
+    /** Cut off from the root, 1 and 2 rise in a loop near to no rank; then others come to it. */
+    private void runDeep() {
+        int cost = 90 + next(11);
+        link(0, 1, cost);
+        link(1, 2, cost);
+        makeRoot(0);
+        pass(5);
+        link(0, 1, 0);
+        setRules(next(101), 10000, 1);
+        while (calls < 240 && Math.max(model.rank(1) % 10000, model.rank(2) % 10000) < 9600) {
+            link(model.rank(1) == 10000 ? 1 : 2, 9, 0);
+            pass(1);
         }
-        if (!wrong.isEmpty()) {
-            Checks.report("deep run " + run + ":" + calls + ": " + wrong);
+        for (int one = 1; one < nodes; one++) {
+            link(one, 1 + next(nodes - 1), 1 + next(100));
         }
+        while (calls < CALLS && !differs) {
+            changeDeep();
+            look();
+        }
+        lookAtAll();
     }
 
-    private static String startDeepRun(RankMesh mesh, ModelMesh model, StringBuilder calls) {
-        StringBuilder wrong = new StringBuilder();
-        wrong.append(compareRules(mesh, model, calls, next(101), 10000, 1));
-        for (int one = 0; one < nodes; one++) {
-            for (int other = 0; other < one; other++) {
-                wrong.append(compareLink(mesh, model, calls, one, other, 60 + next(41)));
-            }
-        }
-        calls.append("\n makeRoot 0, pass 20, endRoot 0");
-        wrong.append(both(() -> mesh.makeRoot(0), () -> model.makeRoot(0)));
-        wrong.append(both(() -> mesh.pass(20), () -> model.pass(20)));
-        wrong.append(both(() -> none(() -> mesh.endRoot(0)), () -> none(() -> model.endRoot(0))));
-        return wrong.toString();
-    }
-
-    private static String compareDeepCall(RankMesh mesh, ModelMesh model, StringBuilder calls) {
-        int a = next(nodes);
-        int b = next(nodes);
+    private void change() {
         switch (next(14)) {
-            case 0:
-                return compareLink(mesh, model, calls, a, b, 40 + next(61));
-            case 1:
-                return compareRules(mesh, model, calls, next(101), 10000, 1);
-            case 2, 3, 4, 5, 6, 7, 8, 9:
-                calls.append("\n pass 1");
-                return both(() -> mesh.pass(1), () -> model.pass(1));
+            case 0, 1, 2, 3:
+                link(node(), node(), next(3) == 0 ? 0 : number(1, next(2) == 0 ? 6 : 100));
+                break;
+            case 4, 5, 6, 7, 8:
+                pass(number(1, next(4) == 0 ? 100 : 3));
+                break;
+            case 9:
+                if (next(2) == 0) {
+                    makeRoot(node());
+                }
+                break;
+            case 10:
+                endRoot(node());
+                break;
+            case 11:
+                int root = node();
+                compare("renew " + root, it -> it.renew(root), it -> it.renew(root));
+                break;
+            case 12:
+                if (next(3) == 0) {
+                    setRules(number(0, next(2) == 0 ? 8 : 100),
+                            number(0, next(2) == 0 ? 30 : 10000),
+                            number(1, next(2) == 0 ? 2 : 8));
+                }
+                break;
             default:
-                return compareLink(mesh, model, calls, a, 9, 0);
+                int from = node();
+                compare("up " + from, it -> it.up(from), it -> it.up(from));
+                break;
         }
     }
 
-    private static String compareLink(RankMesh mesh, ModelMesh model, StringBuilder calls,
-            int one, int other, int cost) {
-        calls.append("\n link ").append(one).append(' ').append(other).append(' ').append(cost);
-        return both(() -> mesh.link(one, other, cost), () -> model.link(one, other, cost));
+    private void changeDeep() {
+        switch (next(14)) {
+            case 0, 1, 2:
+                link(next(nodes), next(nodes), 1 + next(100));
+                break;
+            case 3:
+                setRules(next(101), 10000, 1);
+                break;
+            case 4, 5, 6, 7, 8, 9:
+                pass(1);
+                break;
+            default:
+                link(next(nodes), 9, 0);
+                break;
+        }
     }
 
-    private static String compareCall(RankMesh mesh, ModelMesh model, StringBuilder calls) {
+    private void link(int one, int other, int cost) {
+        compare("link " + one + " " + other + " " + cost,
+                it -> it.link(one, other, cost), it -> it.link(one, other, cost));
+    }
+
+    private void pass(int ticks) {
+        compare("pass " + ticks, it -> it.pass(ticks), it -> it.pass(ticks));
+    }
+
+    private void makeRoot(int node) {
+        compare("makeRoot " + node, it -> it.makeRoot(node), it -> it.makeRoot(node));
+    }
+
+    private void endRoot(int node) {
+        compare("endRoot " + node,
+                it -> Checks.none(() -> it.endRoot(node)),
+                it -> Checks.none(() -> it.endRoot(node)));
+    }
+
+    private void setRules(int hysteresis, int increase, int least) {
+        int doublings = number(0, 6);
+        compare("setRules " + hysteresis + " " + increase + " " + least + " " + doublings,
+                it -> Checks.none(() -> it.setRules(hysteresis, increase, least, doublings)),
+                it -> Checks.none(() -> it.setRules(hysteresis, increase, least, doublings)));
+    }
+
+    private void look() {
         int a = node();
         int b = node();
-        switch (next(16)) {
-            case 0, 1, 2, 3:
-                int cost = next(3) == 0 ? 0 : next(2) == 0 ? number(1, 6) : number(1, 100);
-                return compareLink(mesh, model, calls, a, b, cost);
-            case 4, 5, 6, 7, 8:
-                int ticks = next(4) == 0 ? number(1, 100) : number(1, 3);
-                calls.append("\n pass ").append(ticks);
-                return both(() -> mesh.pass(ticks), () -> model.pass(ticks));
-            case 9:
-                calls.append("\n makeRoot ").append(a);
-                return next(2) == 0 ? ""
-                        : both(() -> mesh.makeRoot(a), () -> model.makeRoot(a));
-            case 10:
-                calls.append("\n endRoot ").append(a);
-                return both(() -> none(() -> mesh.endRoot(a)), () -> none(() -> model.endRoot(a)));
-            case 11:
-                calls.append("\n renew ").append(a);
-                return both(() -> mesh.renew(a), () -> model.renew(a));
-            case 12:
-                return next(3) != 0 ? "" : compareRules(mesh, model, calls,
-                        next(2) == 0 ? number(0, 8) : number(0, 100),
-                        next(2) == 0 ? number(0, 30) : number(0, 10000),
-                        number(1, next(2) == 0 ? 2 : 8));
-            case 13, 14:
-                calls.append("\n up ").append(a);
-                return both(() -> mesh.up(a), () -> model.up(a));
+        switch (next(9)) {
+            case 0, 1:
+                compare("rank " + a, it -> it.rank(a), it -> it.rank(a));
+                break;
+            case 2:
+                compare("parent " + a, it -> it.parent(a), it -> it.parent(a));
+                break;
+            case 3:
+                compare("tree " + a, it -> it.tree(a), it -> it.tree(a));
+                break;
+            case 4:
+                compare("nextTelling " + a, it -> it.nextTelling(a), it -> it.nextTelling(a));
+                break;
+            case 5:
+                compare("heard " + a + " " + b, it -> it.heard(a, b), it -> it.heard(a, b));
+                break;
+            case 6:
+                compare("below " + a, it -> it.below(a), it -> it.below(a));
+                break;
+            case 7:
+                compare("down " + a + " " + b, it -> it.down(a, b), it -> it.down(a, b));
+                break;
             default:
-                calls.append("\n down ").append(a).append(' ').append(b);
-                return both(() -> mesh.down(a, b), () -> model.down(a, b))
-                        + both(() -> mesh.heard(a, b), () -> model.heard(a, b))
-                        + both(() -> mesh.below(a), () -> model.below(a));
+                compare("loops", RankMesh::loops, ModelMesh::loops);
+                break;
         }
     }
 
-    private static String compareRules(RankMesh mesh, ModelMesh model, StringBuilder calls,
-            int hysteresis, int increase, int least) {
-        int doublings = number(0, 6);
-        calls.append("\n setRules ").append(hysteresis).append(' ').append(increase);
-        calls.append(' ').append(least).append(' ').append(doublings);
-        return both(
-                () -> none(() -> mesh.setRules(hysteresis, increase, least, doublings)),
-                () -> none(() -> model.setRules(hysteresis, increase, least, doublings)));
+    private void lookAtAll() {
+        compare("time", RankMesh::time, ModelMesh::time);
+        compare("loops", RankMesh::loops, ModelMesh::loops);
+        int any = next(Meshes.NODES);
+        compare("leastRank " + any, it -> it.leastRank(any), it -> it.leastRank(any));
+        for (int each = 0; each < Meshes.NODES; each++) {
+            int node = each;
+            compare("rank " + node, it -> it.rank(node), it -> it.rank(node));
+            compare("parent " + node, it -> it.parent(node), it -> it.parent(node));
+            compare("tree " + node, it -> it.tree(node), it -> it.tree(node));
+            compare("nextTelling " + node, it -> it.nextTelling(node), it -> it.nextTelling(node));
+            compare("below " + node, it -> it.below(node), it -> it.below(node));
+            for (int next = 0; next < Meshes.NODES; next++) {
+                int of = next;
+                compare("heard " + node + " " + of, it -> it.heard(node, of),
+                        it -> it.heard(node, of));
+            }
+        }
     }
 
-    private static int none(Runnable call) {
-        call.run();
-        return 0;
+    /** After the first difference a run says no more. */
+    private void compare(String call, ToIntFunction<RankMesh> got, ToIntFunction<ModelMesh> want) {
+        if (differs) {
+            return;
+        }
+        calls++;
+        text.append("\n ").append(call);
+        String answer = Checks.answer(() -> got.applyAsInt(mesh));
+        String due = Checks.answer(() -> want.applyAsInt(model));
+        if (!answer.equals(due)) {
+            differs = true;
+            Checks.report("run:" + text + ": " + answer + " answered, due is " + due);
+        }
+        count(call, due);
     }
 
-    private static String both(Call got, Call want) {
-        String answer = answer(got);
-        String due = answer(want);
+    private void count(String call, String due) {
         refused += due.startsWith("throws") ? 1 : 0;
         looped += due.equals("-2") ? 1 : 0;
-        return answer.equals(due) ? "" : answer + " answered, due is " + due;
-    }
-
-    private static String answer(Call call) {
-        try {
-            return Integer.toString(call.answer());
-        } catch (RuntimeException e) {
-            return "throws " + e.getClass().getName();
+        if (call.startsWith("rank") && !due.startsWith("throws")) {
+            int rank = Integer.parseInt(due);
+            int node = Integer.parseInt(call.substring(5));
+            lost += rank == RankMesh.NO_RANK && model.tree(node) >= 0 ? 1 : 0;
+            deepest = Math.max(deepest, rank % RankMesh.NO_RANK);
         }
-    }
-
-    private static String difference(RankMesh mesh, ModelMesh model) {
-        if (mesh.time() != model.time() || mesh.loops() != model.loops()) {
-            return "time or loops";
-        }
-        for (int node = 0; node < Meshes.NODES; node++) {
-            lost += model.rank(node) == 10000 && model.tree(node) != -1 ? 1 : 0;
-            deepest = Math.max(deepest, model.rank(node) % 10000);
-            if (mesh.rank(node) != model.rank(node) || mesh.parent(node) != model.parent(node)
-                    || mesh.tree(node) != model.tree(node)
-                    || mesh.nextTelling(node) != model.nextTelling(node)
-                    || mesh.below(node) != model.below(node)) {
-                return "node " + node;
-            }
-            for (int of = 0; of < Meshes.NODES; of++) {
-                if (mesh.heard(node, of) != model.heard(node, of)) {
-                    return "heard " + node + " " + of;
-                }
-            }
-        }
-        int node = next(Meshes.NODES);
-        return next(20) != 0 || mesh.leastRank(node) == model.leastRank(node)
-                ? "" : "leastRank " + node;
     }
 }

@@ -10,7 +10,7 @@ public final class NextTellingTest {
 
     private static void isLaterThanNow() {
         RankMesh mesh = Meshes.line();
-        for (int tick = 0; tick < 100; tick++) {
+        for (int tick = 0; tick < 22; tick++) {
             mesh.pass(1);
             for (int node = 0; node < Meshes.NODES; node++) {
                 Checks.due("nextTelling is later", 1, mesh.nextTelling(node) > mesh.time() ? 1 : 0);

@@ -63,7 +63,7 @@ public final class RankTest {
         Checks.due("rank of 1, less heard of 2", 54, less.rank(1));
     }
 
-    /** In a loop the ranks rise by 200, and the sum of 10000 is no rank any more. */
+    /** In a loop the ranks rise by 100, and the sum of 10000 is no rank any more. */
     private static void risesToNoRank() {
         RankMesh mesh = new RankMesh();
         mesh.link(0, 1, 100);
@@ -71,17 +71,25 @@ public final class RankTest {
         mesh.makeRoot(0);
         mesh.pass(5);
         mesh.link(0, 1, 0);
+        riseFor(mesh, 90);
+        Checks.due("the rank is not at its end", 1, mesh.rank(2) < 9900 ? 1 : 0);
         int deepest = 0;
-        for (int round = 0; round < 120; round++) {
-            mesh.link(1, 2, 100);
-            mesh.pass(1);
-            mesh.link(2, 1, 100);
+        for (int round = 0; round < 30; round++) {
+            riseFor(mesh, 1);
             deepest = deepest(mesh, 1, deepest);
             deepest = deepest(mesh, 2, deepest);
         }
         Checks.due("the deepest rank", 9900, deepest);
         Checks.due("rank of 1 in the end", 10000, mesh.rank(1));
         Checks.due("rank of 2 in the end", 10000, mesh.rank(2));
+    }
+
+    private static void riseFor(RankMesh mesh, int rounds) {
+        for (int round = 0; round < rounds; round++) {
+            mesh.link(1, 2, 100);
+            mesh.pass(1);
+            mesh.link(2, 1, 100);
+        }
     }
 
     private static int deepest(RankMesh mesh, int node, int before) {

@@ -120,9 +120,7 @@ public final class SetRulesTest {
     private static void tells(RankMesh mesh, int[] ticks) {
         for (int tick : ticks) {
             Checks.due("nextTelling", tick, mesh.nextTelling(0));
-            while (mesh.time() < tick) {
-                mesh.pass(1);
-            }
+            Meshes.passTo(mesh, tick);
         }
     }
 

