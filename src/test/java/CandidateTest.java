@@ -149,6 +149,9 @@ public final class CandidateTest {
         mesh.link(2, 3, 0);
         Checks.due("heard of 1", 5, mesh.heard(3, 1));
         hasNone(mesh, 3, 20);
+        // It has no rank now, but its version still.
+        mesh.link(1, 3, 1);
+        hasNone(mesh, 3, 20);
     }
 
     /** 1 and 2 below the root 0, and linked; then 1 has only 2 left. */

@@ -174,8 +174,19 @@ public final class ChoiceTest {
         lowestIs(least, 0, 1);
     }
 
-    /** From 0 to the root 2 and back: in each tree the first rank is the lowest one. */
+    /** From 0 to the root 2 in the same version, and back. */
     private static void lowestRankIsNewInAnotherTree() {
+        lowestIs(inTreeOfTwo(), 2, 60);
+        RankMesh mesh = inTreeOfTwo();
+        mesh.link(0, 1, 80);
+        mesh.pass(20);
+        mesh.link(1, 2, 0);
+        Checks.due("tree", 10, mesh.tree(1));
+        Checks.due("rank", 80, mesh.rank(1));
+        lowestIs(mesh, 0, 80);
+    }
+
+    private static RankMesh inTreeOfTwo() {
         RankMesh mesh = withLowest(20);
         mesh.makeRoot(2);
         mesh.link(1, 2, 60);
@@ -183,16 +194,7 @@ public final class ChoiceTest {
         mesh.link(0, 1, 0);
         Checks.due("tree", 12, mesh.tree(1));
         Checks.due("rank", 60, mesh.rank(1));
-        mesh.link(0, 1, 80);
-        mesh.renew(2);
-        mesh.pass(9);
-        Checks.due("tree", 22, mesh.tree(1));
-        lowestIs(mesh, 2, 60);
-        mesh.pass(9);
-        mesh.link(1, 2, 0);
-        Checks.due("tree", 10, mesh.tree(1));
-        Checks.due("rank", 80, mesh.rank(1));
-        lowestIs(mesh, 0, 80);
+        return mesh;
     }
 
     private static void lowestRankIsNewInAnotherVersion() {

@@ -4,6 +4,7 @@ public final class LeastRankTest {
         longestWay();
         longestWayByFallingNumbers();
         cheapestOfManyWays();
+        anyRootCounts();
         isNotWhatTheNodesHave();
         wrongNodes();
         Checks.end();
@@ -58,6 +59,20 @@ public final class LeastRankTest {
         mesh.makeRoot(4);
         Checks.due("leastRank", 6, mesh.leastRank(3));
         Checks.due("leastRank", 0, mesh.leastRank(4));
+    }
+
+    /** 2 is in the tree of the root 0, and 3 a nearer root that has not told yet. */
+    private static void anyRootCounts() {
+        RankMesh mesh = Meshes.line();
+        mesh.pass(20);
+        mesh.link(2, 3, 4);
+        mesh.makeRoot(3);
+        Checks.due("tree of 2", 10, mesh.tree(2));
+        Checks.due("rank of 2", 10, mesh.rank(2));
+        Checks.due("leastRank of 2", 4, mesh.leastRank(2));
+        Checks.due("leastRank of 1", 5, mesh.leastRank(1));
+        mesh.endRoot(3);
+        Checks.due("leastRank of 2 without it", 10, mesh.leastRank(2));
     }
 
     private static void isNotWhatTheNodesHave() {

@@ -4,8 +4,8 @@ import java.util.function.ToIntFunction;
 public final class ModelTest {
     private static final int RUNS = 3000;
     private static final int DEEP_RUNS = 600;
-    /* An object is used for 512 calls, of which the look at the whole state takes up to 153. */
-    private static final int CALLS = 359;
+    /* An object is used for 512 calls, of which the look at the whole state takes 153. */
+    private static final int CALLS = 358;
     private static final int[] ODD_NUMBERS = {
         -1, 10, 101, 10001, -10000, Integer.MIN_VALUE, Integer.MAX_VALUE, 1 << 30, 7, 9,
     };

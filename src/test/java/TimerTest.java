@@ -3,6 +3,7 @@ public final class TimerTest {
     public static void main(String[] args) {
         leastAndGreatestIntervals();
         greatestIntervalAsItIsSetNow();
+        runningIntervalStaysAsItIs();
         resetMakesTheLeastIntervalThatIsSetNow();
         newsOfTheTreeAlone();
         newsOfTheVersionAlone();
@@ -52,6 +53,20 @@ public final class TimerTest {
         mesh.setRules(0, 10000, 8, 6);
         mesh.pass(1);
         Checks.due("nextTelling, 1 doubled", 1019, mesh.nextTelling(0));
+    }
+
+    /** Rules that have gone again when the node tells leave no mark on its interval. */
+    private static void runningIntervalStaysAsItIs() {
+        RankMesh mesh = new RankMesh();
+        mesh.setRules(0, 10000, 8, 6);
+        mesh.makeRoot(0);
+        Meshes.passTo(mesh, 120);
+        Checks.due("nextTelling, an interval of 128", 248, mesh.nextTelling(0));
+        mesh.setRules(0, 10000, 1, 0);
+        mesh.pass(1);
+        mesh.setRules(0, 10000, 8, 6);
+        Meshes.passTo(mesh, 248);
+        Checks.due("nextTelling, 128 doubled", 504, mesh.nextTelling(0));
     }
 
     private static void resetMakesTheLeastIntervalThatIsSetNow() {

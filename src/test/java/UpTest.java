@@ -5,6 +5,7 @@ public final class UpTest {
         endsWithoutAParent();
         goesOnAfterOneOddStep();
         equalRankIsOddAndOneLessIsNot();
+        secondOddStepNeedNotFollowTheFirst();
         findsLoops();
         secondOddStepIsALoopEvenToNothing();
         wrongNodes();
@@ -65,6 +66,23 @@ public final class UpTest {
         Checks.due("up, one equal rank", 2, mesh.up(2));
         Checks.due("loops", 0, mesh.loops());
         Checks.due("up, two equal ranks", -2, mesh.up(3));
+        Checks.due("loops", 1, mesh.loops());
+    }
+
+    /** From 4 to 3 an equal rank, to 2 one less, and to 1 an equal one again. */
+    private static void secondOddStepNeedNotFollowTheFirst() {
+        RankMesh mesh = Meshes.line();
+        mesh.link(3, 4, 5);
+        mesh.pass(20);
+        mesh.link(2, 3, 10);
+        mesh.link(0, 1, 10);
+        int[] ranks = {0, 10, 10, 20, 20};
+        for (int node = 0; node < ranks.length; node++) {
+            Checks.due("rank", ranks[node], mesh.rank(node));
+        }
+        Checks.due("up, the second equal rank alone", 3, mesh.up(3));
+        Checks.due("loops", 0, mesh.loops());
+        Checks.due("up, both equal ranks", -2, mesh.up(4));
         Checks.due("loops", 1, mesh.loops());
     }
 
