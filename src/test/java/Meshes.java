@@ -2,6 +2,8 @@
 final class Meshes {
     static final int NODES = 10;
     static final int[] NO_NODES = {-1, 10, 11, Integer.MIN_VALUE, Integer.MAX_VALUE};
+    /* A class that never comes to what a test waits for fails it, and does not stop it. */
+    private static final int MOST_ROUNDS = 100;
 
     private Meshes() {
     }
@@ -48,7 +50,7 @@ final class Meshes {
         mesh.pass(5);
         mesh.link(0, 1, 0);
         mesh.link(1, 2, 99);
-        while (mesh.rank(1) < 9800) {
+        for (int round = 0; round < MOST_ROUNDS && mesh.rank(1) < 9800; round++) {
             riseBy(mesh, 2, 1, 99);
             riseBy(mesh, 1, 2, 99);
         }
@@ -66,7 +68,7 @@ final class Meshes {
     /** Lets time pass in few calls, as an object has 512 of them. */
     static int passTo(RankMesh mesh, int tick) {
         int tellings = 0;
-        while (mesh.time() < tick) {
+        for (int round = 0; round < MOST_ROUNDS && mesh.time() < tick; round++) {
             tellings += mesh.pass(Math.min(100, tick - mesh.time()));
         }
         return tellings;

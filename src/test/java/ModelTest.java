@@ -74,7 +74,8 @@ public final class ModelTest {
         pass(5);
         link(0, 1, 0);
         setRules(next(101), 10000, 1);
-        while (calls < 240 && Math.max(model.rank(1) % 10000, model.rank(2) % 10000) < 9600) {
+        while (calls < 240 && !differs
+                && Math.max(model.rank(1) % 10000, model.rank(2) % 10000) < 9600) {
             link(model.rank(1) == 10000 ? 1 : 2, 9, 0);
             pass(1);
         }
